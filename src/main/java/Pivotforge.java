@@ -273,8 +273,8 @@ public final class Pivotforge {
         return row * COLUMNS + column;
     }
 
-    private static boolean contains(int entries, int entry) {
-        return (entries & 1 << entry) != 0;
+    private static boolean contains(int set, int member) {
+        return (set & 1 << member) != 0;
     }
 
     private int embargoedFor(int table, int level) {

@@ -1,5 +1,6 @@
-/** Counts and prints what is not as it is due. */
+/** Counts what is not as it is due, and prints the first of it. */
 public final class Check {
+    private static final int MOST_LINES = 30;
     private static int wrong = 0;
 
     private Check() {
@@ -63,7 +64,9 @@ public final class Check {
 
     public static void fail(String message) {
         wrong++;
-        System.out.println("WRONG: " + message);
+        if (wrong <= MOST_LINES) {
+            System.out.println("WRONG: " + message);
+        }
     }
 
     /** To be called last by each test's main. */
