@@ -2,6 +2,7 @@
 public final class Check {
     private static final int MOST_LINES = 30;
     private static int wrong = 0;
+    private static String place = "";
 
     private Check() {
     }
@@ -14,6 +15,26 @@ public final class Check {
     /** A call whose answer is a boolean. */
     public interface BooleanCall {
         boolean run();
+    }
+
+    /**
+     * Tries a sentence of the document, of a promise, or with 0 of what stands ahead of the
+     * promises; what is wrong is told with both.
+     */
+    public static void sentence(int promise, String sentence, Runnable test) {
+        place = (promise == 0 ? "terms" : "promise " + promise) + ", \"" + sentence + "\": ";
+        Document.quote(promise, sentence);
+        try {
+            test.run();
+        } catch (RuntimeException e) {
+            fail("a call that should answer threw " + e);
+        }
+        place = "";
+    }
+
+    /** The ints next to a range, and the least and the greatest of all. */
+    public static int[] outside(int least, int greatest) {
+        return new int[] {least - 1, greatest + 1, Integer.MIN_VALUE, Integer.MAX_VALUE};
     }
 
     public static void due(String what, long want, IntCall call) {
@@ -65,7 +86,7 @@ public final class Check {
     public static void fail(String message) {
         wrong++;
         if (wrong <= MOST_LINES) {
-            System.out.println("WRONG: " + message);
+            System.out.println("WRONG: " + place + message);
         }
     }
 
