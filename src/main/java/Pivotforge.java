@@ -309,7 +309,7 @@ public final class Pivotforge {
             }
         }
 
-        /** Adds an amount to the four sums that it counts in. */
+        /** Four sums are kept, so that none has to be found from all sales when it is asked. */
         private void enter(int place, int goods, int amount) {
             sums[place * COLUMNS + goods] += amount;
             sums[place * COLUMNS + TOTAL_COLUMN] += amount;
@@ -360,7 +360,7 @@ public final class Pivotforge {
         }
     }
 
-    /** The place of a report; it is built again and again in the same object. */
+    /** Built again and again in the same object, so that no build takes new room. */
     private static final class Report {
         private final int[] numbers = new int[ENTRIES];
         private boolean built;
@@ -377,7 +377,7 @@ public final class Pivotforge {
         }
     }
 
-    /** Finds by rounds what can be found, and covers it. */
+    /** By rounds alone, so that Equations can tell the same in another way. */
     private static final class Covers {
         private static final int ROW_BITS = 63;
         private static final int MOST_NEWLY_HIDDEN = 3;
@@ -432,7 +432,7 @@ public final class Pivotforge {
             return best;
         }
 
-        /** The three entries that make a round of four with an entry. */
+        /** With these three the entry is on a round of four, so that it cannot be found. */
         private static int cornersOf(int entry, int row, int column) {
             int besides = entry / COLUMNS * COLUMNS + column;
             int below = row * COLUMNS + entry % COLUMNS;
@@ -488,7 +488,7 @@ public final class Pivotforge {
             }
         }
 
-        /** The first equation with an entry that is not spent; COUNT if there is none. */
+        /** COUNT stands for none, as no equation has that number. */
         private int unspentWith(int entry, int spent) {
             for (int i = 0; i < COUNT; i++) {
                 if (!contains(spent, i) && factors[i][entry] != 0) {

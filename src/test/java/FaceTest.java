@@ -2,10 +2,15 @@ import java.lang.reflect.Constructor;
 import java.lang.reflect.Field;
 import java.lang.reflect.Method;
 import java.lang.reflect.Modifier;
+import java.nio.file.Path;
+import java.util.ArrayList;
 import java.util.Arrays;
 import java.util.HashSet;
+import java.util.List;
 import java.util.Set;
 import java.util.TreeSet;
+import java.util.regex.Matcher;
+import java.util.regex.Pattern;
 
 /** The public face, as the document gives it, and rule 1 of LANGUAGE.md. */
 public final class FaceTest {
@@ -40,6 +45,8 @@ public final class FaceTest {
         methodsStand();
         nothingElseCanBeSeen();
         noPrivateMethodHasAPublicName();
+        allIsWrittenAsInTheDocument();
+        theCallsStandUnderTheirHeadings();
         Check.end();
     }
 
@@ -124,5 +131,50 @@ public final class FaceTest {
                 Check.fail(method + " bears the name of a public one");
             }
         }
+    }
+
+    /** 'The public face': its lines, with the names of what is told, in their order. */
+    private static void allIsWrittenAsInTheDocument() {
+        String document = Checkout.read(Path.of("..", "shared", "DOC.md"));
+        Matcher face = Pattern.compile("```java\\n([\\s\\S]*?)```").matcher(document);
+        if (!face.find()) {
+            Check.fail("the document has no public face");
+            return;
+        }
+        String source = spaced(Checkout.read(Path.of(Checkout.MAIN)));
+        int at = 0;
+        for (String line : face.group(1).split("\n")) {
+            boolean isCall = line.contains("(");
+            String due = isCall ? line.trim().replace(";", " {") : line.trim();
+            int found = source.indexOf(due, at);
+            if (found < 0) {
+                Check.fail("not written, or not in the document's order: " + due);
+            }
+            at = Math.max(at, found);
+        }
+    }
+
+    /** "Ahead of the calls .. the interface says: ---- sales and sums.", and so on. */
+    private static void theCallsStandUnderTheirHeadings() {
+        String document = Checkout.read(Path.of("..", "shared", "DOC.md"));
+        Matcher said = Pattern.compile("(?m)^Ahead of the calls (.*) the interface says: (.*)\\.$")
+                .matcher(document);
+        List<String> due = new ArrayList<>();
+        while (said.find()) {
+            due.add("// " + said.group(2));
+            due.addAll(List.of(said.group(1).replace("`", "").split(", ")));
+        }
+        List<String> got = new ArrayList<>();
+        Matcher written = Pattern.compile("(?m)^    (?:(// ---- .*)|public \\w+ (\\w+)\\(.*)$")
+                .matcher(Checkout.read(Path.of(Checkout.MAIN)));
+        while (written.find()) {
+            got.add(written.group(1) != null ? written.group(1) : written.group(2));
+        }
+        Check.compare("the document's headings and calls", 24, due.size());
+        Check.compare("the headings and calls", due, got.subList(0, Math.min(24, got.size())));
+    }
+
+    private static String spaced(String text) {
+        return text.replaceAll("\\s+", " ");
     }
 }
